@@ -1,0 +1,78 @@
+import java.util.List;
+
+/** Counts answers that are not the due ones, and ends a test with exit code 1 if there was one. */
+final class Check {
+    interface Call {
+        Object run();
+    }
+
+    private static int wrong = 0;
+    private static int made = 0;
+
+    private Check() {
+    }
+
+    static void due(String what, long got, long want) {
+        made++;
+        if (got != want) {
+            tell(what + " answered " + got + ", due is " + want);
+        }
+    }
+
+    static void holds(String what, boolean got) {
+        made++;
+        if (!got) {
+            tell(what + " does not hold");
+        }
+    }
+
+    static void same(String what, Object got, Object want) {
+        made++;
+        if (!want.equals(got)) {
+            tell(what + " is\n" + got + "\ndue is\n" + want);
+        }
+    }
+
+    /** The call throws IllegalArgumentException, and nothing that the face shows is changed. */
+    static void refusesArgument(String what, QuorumChain x, Call call) {
+        refuses(what, x, call, "IllegalArgumentException");
+    }
+
+    /** The call throws IllegalStateException, and nothing that the face shows is changed. */
+    static void refusesState(String what, QuorumChain x, Call call) {
+        refuses(what, x, call, "IllegalStateException");
+    }
+
+    private static void refuses(String what, QuorumChain x, Call call, String exception) {
+        List<Long> before = Watch.all(x);
+        same(what, outcome(call), exception);
+        same("the state after " + what, Watch.all(x), before);
+    }
+
+    /** The answer as a text, or the name of what was thrown. */
+    static String outcome(Call call) {
+        try {
+            return String.valueOf(call.run());
+        } catch (RuntimeException e) {
+            return e.getClass().getSimpleName();
+        }
+    }
+
+    static int wrongSoFar() {
+        return wrong;
+    }
+
+    static void end() {
+        System.out.println(made + " answers looked at, " + wrong + " not as due");
+        if (wrong != 0 || made == 0) {
+            System.exit(1);
+        }
+    }
+
+    private static void tell(String text) {
+        wrong++;
+        if (wrong <= 40) {
+            System.out.println(text);
+        }
+    }
+}
