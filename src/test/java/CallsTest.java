@@ -351,6 +351,15 @@ public final class CallsTest {
             x.lieVote(1, 1);
         }
         Check.refusesState("lie without a key", x, () -> x.lie(0, 13, 1, 0));
+        QuorumChain z = new QuorumChain(6);
+        z.begin();
+        Play.lose(z, 3);
+        for (int i = 0; i < 3; i++) {
+            z.deliver(i);
+        }
+        Play.deliver(z, 0, 3);
+        Check.due("block 1 is certified, and not there for node 3", z.block(1, 3) * 16 + z.block(1, 4), 23);
+        Check.refusesState("lie on it", z, () -> z.lie(0, 13, 1, NONE));
         QuorumChain y = new QuorumChain(6);
         Check.due("lie to a node that is down", y.crash(1) ? y.lie(1, 13, 0, NONE) : 0, 1);
         Check.due("it is on the way", y.message(1, 0, 0), 1);

@@ -13,9 +13,11 @@ public final class RulesTest {
         votesCountOnlyAtTheNextLeader();
         votesAreForgottenInACrash();
         lateVotesCertifyAndNoMore();
+        votesForABlockBelowHighOnlyCertify();
         votesForTheViewBeforeStillCount();
         threeInARowCommit();
         brokenRowsDoNotCommit();
+        committingWaitsForThreeViewsInARow();
         transactionsAreCarriedOutInOrder();
         transactionsAreTakenOnceInAChain();
         aLockHoldsTheVote();
@@ -123,14 +125,17 @@ public final class RulesTest {
         Play.deliverAll(x, 1);
         Check.due("votes to one who does not lead", x.block(1, 3), 0);
         QuorumChain y = new QuorumChain(3);
-        y.lie(1, 16, 0, NONE);
-        y.lieVote(0, 1);
-        y.deliver(0);
-        Check.due("node 0 has not block 1", y.node(0, 9), 1);
-        y.deliver(1);
-        Check.due("the leader of view 17", y.message(0, 0, 2), 1);
-        y.deliver(0);
-        Check.due("does not keep votes for what it has not", y.block(1, 3), 0);
+        y.begin();
+        Play.runUntilBlock(y, 4);
+        Play.lose(y, 1);
+        for (int i : new int[] {0, 2, 3}) {
+            Play.deliverAll(y, i);
+        }
+        Check.due("three votes are on the way to the leader of view 5", y.node(1, 11), 3);
+        Play.deliverAll(y, 1);
+        Check.due("who does not have block 4", y.block(4, 4), 13);
+        Check.due("and does not keep them", y.block(4, 3), 0);
+        Check.due("nor enters view 5", y.node(1, 1), 3);
     }
 
     private static void votesAreForgottenInACrash() {
@@ -198,6 +203,58 @@ public final class RulesTest {
         Check.due("no new block", x.about(1), 4);
     }
 
+    /** Loses the proposals to node 0, which stand behind so many votes that are kept. */
+    private static void loseBehindVotes(QuorumChain x, int votes) {
+        int others = x.node(0, 11) - votes;
+        bringBehindVotesFirst(x, votes);
+        for (int k = 0; k < others; k++) {
+            x.disturb(0, 0);
+        }
+    }
+
+    private static void bringBehindVotesFirst(QuorumChain x, int votes) {
+        for (int k = 0; k < votes; k++) {
+            x.disturb(0, 1);
+        }
+    }
+
+    private static void votesForABlockBelowHighOnlyCertify() {
+        QuorumChain x = new QuorumChain(21);
+        x.begin();
+        for (int i = 0; i < 3; i++) {
+            x.deliver(i);
+        }
+        Play.lose(x, 3);
+        for (int i = 1; i < 4; i++) {
+            x.lie(i, 13, 0, NONE);
+            Play.deliverAll(x, i);
+        }
+        Play.ticks(x, 6);
+        loseBehindVotes(x, 3);
+        Play.deliver(x, 3, 4);
+        Play.deliver(x, 1, 5);
+        Play.deliver(x, 2, 5);
+        Play.deliver(x, 3, 4);
+        Check.due("block 5 of view 14 is certified", x.block(5, 3), 1);
+        bringBehindVotesFirst(x, 3);
+        x.disturb(0, 0);
+        x.deliver(0);
+        Play.deliver(x, 3, 2);
+        bringBehindVotesFirst(x, 3);
+        x.deliver(0);
+        Check.due("node 0 was sent block 5", x.block(5, 4), 15);
+        Play.ticks(x, 6);
+        bringBehindVotesFirst(x, 3);
+        x.deliver(0);
+        Check.due("a timeout has brought HIGH", x.node(0, 4), 5);
+        Check.due("node 0 is in view 1", x.node(0, 1), 1);
+        Play.deliver(x, 0, 3);
+        Check.due("block 1 is certified", x.block(1, 3), 1);
+        Check.due("HIGH stays", x.node(0, 4), 5);
+        Check.due("so does the view", x.node(0, 1), 1);
+        Check.due("no new block", x.about(1), 7);
+    }
+
     private static void threeInARowCommit() {
         QuorumChain x = new QuorumChain(11);
         x.begin();
@@ -229,8 +286,33 @@ public final class RulesTest {
         Check.due("a block on block 2", x.node(1, 1), 13);
         Check.due("locks block 1", x.node(1, 6), 1);
         Check.due("and commits block 0 again", x.node(1, 8), 1);
-        QuorumChain y = forked();
-        Check.due("blocks 0, 7 and 8 have views 0, 14 and 15", y.node(0, 8), 1);
+    }
+
+    private static void committingWaitsForThreeViewsInARow() {
+        QuorumChain x = new QuorumChain(11);
+        x.begin();
+        Play.runUntilBlock(x, 3);
+        Play.loseAll(x);
+        Play.ticks(x, 6);
+        for (int i = 0; i < 4; i++) {
+            Play.deliverAll(x, i);
+        }
+        Play.ticks(x, 12);
+        Play.runUntilBlock(x, 5);
+        Play.deliverAll(x, 2);
+        Check.due("view of block 4", x.block(4, 0), 4);
+        Check.due("parent of block 4", x.block(4, 1), 2);
+        Check.due("parent of block 5", x.block(5, 1), 4);
+        Check.due("views 1, 2 and 4", x.node(2, 8), 1);
+        Play.runUntilBlock(x, 6);
+        Play.deliverAll(x, 2);
+        Check.due("views 2, 4 and 5", x.node(2, 8), 1);
+        Play.runUntilBlock(x, 7);
+        Play.deliverAll(x, 2);
+        int[] due = {0, 1, 2, 4, NONE};
+        for (int k = 0; k < due.length; k++) {
+            Check.due("views 4, 5 and 6: log " + k, x.log(2, k), due[k]);
+        }
     }
 
     private static void transactionsAreCarriedOutInOrder() {
@@ -413,6 +495,13 @@ public final class RulesTest {
         Play.ticks(y, 12);
         Play.deliverAll(y, 0);
         Check.due("timeouts of a view far above", y.node(0, 1), 15);
+        Check.due("VOTED stays", y.node(0, 5), 1);
+        y.lie(0, 14, 0, NONE);
+        Play.deliverAll(y, 0);
+        Check.due("no vote below its own view", y.node(0, 5), 1);
+        y.lie(0, 15, 0, NONE);
+        Play.deliverAll(y, 0);
+        Check.due("a vote in its own view", y.node(0, 5), 15);
     }
 
     /** Nodes 1, 2 and 3 believe lies with view 14. */
@@ -465,9 +554,9 @@ public final class RulesTest {
         Check.due("node 0's timeout has block 1", x.message(1, 0, 2), 1);
         x.deliver(1);
         Check.due("it brings HIGH", x.node(1, 4), 1);
-        x.crash(2);
-        x.restart(2);
-        Check.due("node 2's HIGH", x.node(2, 4), 0);
+        x.crash(1);
+        x.restart(1);
+        Check.due("a crash loses it", x.node(1, 4), 0);
         QuorumChain y = lockedAtNodeTwo();
         Play.ticks(y, 6);
         y.deliver(3);
@@ -489,8 +578,9 @@ public final class RulesTest {
         x.deliver(1);
         Check.due("its own timeout alone", x.node(1, 1), 1);
         Play.ticks(x, 6);
-        Play.deliver(x, 1, 1);
-        Check.due("two since the start", x.node(1, 1), 1);
+        x.disturb(1, 1);
+        x.deliver(1);
+        Check.due("node 2's is the second since the start", x.node(1, 1), 1);
         x.deliver(1);
         Check.due("three since the start", x.node(1, 1), 2);
     }
