@@ -36,7 +36,7 @@ public final class CallsTest {
     private static void promise1NewObject() {
         int[] due = {1, 1, 6, 6, 0, 0, 0, 0, 1, 1, 0, 0};
         for (int seed : new int[] {0, 5, -7, Integer.MIN_VALUE, Integer.MAX_VALUE}) {
-            QuorumChain x = new QuorumChain(seed);
+            Chain x = new Chain(seed);
             for (int i = 0; i < 4; i++) {
                 for (int what = 0; what < due.length; what++) {
                     Check.due("new: node(" + i + ", " + what + ")", x.node(i, what), due[what]);
@@ -45,12 +45,12 @@ public final class CallsTest {
             Check.due("new: clock", x.about(0), 0);
             Check.due("new: blocks", x.about(1), 1);
             Check.due("new: transactions", x.about(2), 0);
-            Check.same("new, seed " + seed, Watch.all(x), Watch.all(new NaiveChain(seed)));
+            Check.same("new, seed " + seed, x.all(), Watch.all(new NaiveChain(seed)));
         }
     }
 
     private static void promise2Transaction() {
-        QuorumChain x = new QuorumChain(1);
+        Chain x = new Chain(1);
         int[][] wrong = {{-1, 0, 1, 0}, {4, 0, 1, 0}, {0, -1, 1, 0}, {0, 4, 1, 0}, {0, 1, -1, 0},
             {0, 1, 1001, 0}, {0, 1, 1, -1}, {0, 1, 1, 1001}};
         for (int[] w : wrong) {
@@ -68,7 +68,7 @@ public final class CallsTest {
     }
 
     private static void promise3Submit() {
-        QuorumChain x = new QuorumChain(1);
+        Chain x = new Chain(1);
         Check.refusesArgument("submit without transactions", x, () -> x.submit(0, 0));
         x.transaction(0, 1, 1, 0);
         x.transaction(0, 1, 1, 1);
@@ -92,7 +92,7 @@ public final class CallsTest {
     }
 
     private static int fillPool() {
-        QuorumChain x = new QuorumChain(1);
+        Chain x = new Chain(1);
         for (int t = 0; t < 40; t++) {
             x.submit(3, x.transaction(0, 0, 0, 0));
         }
@@ -100,7 +100,7 @@ public final class CallsTest {
     }
 
     private static void promise4Begin() {
-        QuorumChain x = new QuorumChain(8);
+        Chain x = new Chain(8);
         x.transaction(0, 1, 1, 0);
         x.transaction(0, 1, 2, 0);
         x.submit(0, 1);
@@ -127,7 +127,7 @@ public final class CallsTest {
     }
 
     private static void promise4BeginIsRefused() {
-        QuorumChain x = new QuorumChain(8);
+        Chain x = new Chain(8);
         x.crash(0);
         Check.refusesState("begin while node 0 is down", x, () -> x.begin());
         x.restart(0);
@@ -135,7 +135,7 @@ public final class CallsTest {
         x.crash(0);
         x.restart(0);
         Check.refusesState("begin again after a crash", x, () -> x.begin());
-        QuorumChain y = new QuorumChain(8);
+        Chain y = new Chain(8);
         Play.ticks(y, 6);
         Play.deliver(y, 0, 3);
         Check.due("node 0 is in view 2", y.node(0, 1), 2);
@@ -143,7 +143,7 @@ public final class CallsTest {
     }
 
     private static void promise5Deliver() {
-        QuorumChain x = new QuorumChain(3);
+        Chain x = new Chain(3);
         for (int i : NO_NODES) {
             Check.refusesArgument("deliver to no node", x, () -> x.deliver(i));
         }
@@ -164,8 +164,8 @@ public final class CallsTest {
         Check.due("and was not seen", x.node(2, 9), 1);
     }
 
-    private static QuorumChain threeVotesToNodeOne() {
-        QuorumChain x = new QuorumChain(4);
+    private static Chain threeVotesToNodeOne() {
+        Chain x = new Chain(4);
         x.begin();
         Play.loseAll(x);
         for (int k = 0; k < 3; k++) {
@@ -174,7 +174,7 @@ public final class CallsTest {
         return x;
     }
 
-    private static void keysOfMessages(String what, QuorumChain x, int i, int... due) {
+    private static void keysOfMessages(String what, Chain x, int i, int... due) {
         Check.due(what + ": messages", x.node(i, 11), due.length);
         for (int k = 0; k < due.length; k++) {
             Check.due(what + ": key of message " + k, x.message(i, k, 4), due[k]);
@@ -182,7 +182,7 @@ public final class CallsTest {
     }
 
     private static void promise6Disturb() {
-        QuorumChain x = threeVotesToNodeOne();
+        Chain x = threeVotesToNodeOne();
         keysOfMessages("three votes", x, 1, 0, 1, 2);
         Check.holds("disturb(1, 1)", x.disturb(1, 1));
         keysOfMessages("behind all others", x, 1, 1, 2, 0);
@@ -212,7 +212,7 @@ public final class CallsTest {
     }
 
     private static void promise6DisturbAFullRow() {
-        QuorumChain x = threeVotesToNodeOne();
+        Chain x = threeVotesToNodeOne();
         for (int k = 3; k < 16; k++) {
             x.disturb(1, 2);
         }
@@ -232,7 +232,7 @@ public final class CallsTest {
     private static void promise7Alter() {
         for (int which = 0; which <= 10; which++) {
             for (long mask : new long[] {1, -1, Long.MIN_VALUE}) {
-                QuorumChain x = new QuorumChain(which);
+                Chain x = new Chain(which);
                 x.begin();
                 Check.holds("alter", x.alter(1, which, mask));
                 Check.due("the kind of an altered one", x.deliver(1), 1);
@@ -245,7 +245,7 @@ public final class CallsTest {
                 Check.due("altered back", x.node(3, 9), 2);
             }
         }
-        QuorumChain x = new QuorumChain(2);
+        Chain x = new Chain(2);
         x.begin();
         x.alter(1, 4, 0);
         x.disturb(1, 2);
@@ -262,7 +262,7 @@ public final class CallsTest {
     }
 
     private static void promise7AlterIsRefused() {
-        QuorumChain x = new QuorumChain(2);
+        Chain x = new Chain(2);
         x.begin();
         for (int i : NO_NODES) {
             Check.refusesArgument("alter no node's", x, () -> x.alter(i, 0, 1));
@@ -273,7 +273,7 @@ public final class CallsTest {
         Play.lose(x, 0);
         Check.refusesState("alter nothing", x, () -> x.alter(0, 0, 1));
         Check.refusesArgument("alter no long of nothing", x, () -> x.alter(0, 11, 1));
-        QuorumChain y = askedForBlockOne();
+        Chain y = askedForBlockOne();
         Check.due("an ask", y.message(0, 0, 0), 4);
         Check.refusesState("alter an ask", y, () -> y.alter(0, 0, 1));
         y.deliver(0);
@@ -282,8 +282,8 @@ public final class CallsTest {
     }
 
     /** Node 1 never saw block 1, got block 2, and has asked node 0; nothing else is on the way to both. */
-    private static QuorumChain askedForBlockOne() {
-        QuorumChain x = new QuorumChain(2);
+    private static Chain askedForBlockOne() {
+        Chain x = new Chain(2);
         x.begin();
         Play.lose(x, 1);
         for (int i : new int[] {0, 2, 3}) {
@@ -296,7 +296,7 @@ public final class CallsTest {
     }
 
     private static void promise8Lie() {
-        QuorumChain x = new QuorumChain(6);
+        Chain x = new Chain(6);
         x.transaction(0, 1, 5, 0);
         int made = 1;
         for (int v : new int[] {13, 14, 15, 16, 29, 30, 31, 32, 45, 46, 47, 48}) {
@@ -325,7 +325,7 @@ public final class CallsTest {
     }
 
     private static void promise8LieIsRefused() {
-        QuorumChain x = Play.withBlockTwoProposed(6);
+        Chain x = Play.withBlockTwoProposed(6);
         x.transaction(0, 1, 5, 0);
         for (int i : NO_NODES) {
             Check.refusesArgument("lie to no node", x, () -> x.lie(i, 13, 0, NONE));
@@ -351,7 +351,7 @@ public final class CallsTest {
             x.lieVote(1, 1);
         }
         Check.refusesState("lie without a key", x, () -> x.lie(0, 13, 1, 0));
-        QuorumChain z = new QuorumChain(6);
+        Chain z = new Chain(6);
         z.begin();
         Play.lose(z, 3);
         for (int i = 0; i < 3; i++) {
@@ -360,13 +360,13 @@ public final class CallsTest {
         Play.deliver(z, 0, 3);
         Check.due("block 1 is certified, and not there for node 3", z.block(1, 3) * 16 + z.block(1, 4), 23);
         Check.refusesState("lie on it", z, () -> z.lie(0, 13, 1, NONE));
-        QuorumChain y = new QuorumChain(6);
+        Chain y = new Chain(6);
         Check.due("lie to a node that is down", y.crash(1) ? y.lie(1, 13, 0, NONE) : 0, 1);
         Check.due("it is on the way", y.message(1, 0, 0), 1);
     }
 
     private static void promise9LieVote() {
-        QuorumChain x = new QuorumChain(6);
+        Chain x = new Chain(6);
         Check.refusesArgument("lieVote for no block", x, () -> x.lieVote(0, 1));
         Check.refusesState("lieVote for block 0", x, () -> x.lieVote(0, 0));
         x.begin();
@@ -393,7 +393,7 @@ public final class CallsTest {
     }
 
     private static void promise10Tick() {
-        QuorumChain x = new QuorumChain(6);
+        Chain x = new Chain(6);
         x.crash(2);
         for (int k = 1; k <= 5; k++) {
             Check.due("tick", x.tick(), k);
@@ -420,7 +420,7 @@ public final class CallsTest {
     }
 
     private static void promise11Crash() {
-        QuorumChain x = Play.withBlockTwoProposed(6);
+        Chain x = Play.withBlockTwoProposed(6);
         x.transaction(0, 1, 5, 0);
         x.submit(1, 0);
         x.deliver(1);
@@ -443,7 +443,7 @@ public final class CallsTest {
     }
 
     private static void promise12Restart() {
-        QuorumChain x = Play.withBlockTwoProposed(6);
+        Chain x = Play.withBlockTwoProposed(6);
         x.deliver(1);
         for (int i : NO_NODES) {
             Check.refusesArgument("restart no node", x, () -> x.restart(i));
@@ -456,14 +456,14 @@ public final class CallsTest {
         for (int what = 0; what < due.length; what++) {
             Check.due("up again: node(1, " + what + ")", x.node(1, what), due[what]);
         }
-        QuorumChain y = new QuorumChain(6);
+        Chain y = new Chain(6);
         y.crash(3);
         y.restart(3);
-        Check.same("a new node that crashed and started", Watch.all(y), Watch.all(new QuorumChain(6)));
+        Check.same("a new node that crashed and started", y.all(), new Chain(6).all());
     }
 
     private static void promise13Node() {
-        QuorumChain x = Play.withBlockTwoProposed(6);
+        Chain x = Play.withBlockTwoProposed(6);
         x.transaction(0, 1, 5, 0);
         x.submit(0, 0);
         x.tick();
@@ -482,7 +482,7 @@ public final class CallsTest {
     }
 
     private static void promise14Log() {
-        QuorumChain x = new QuorumChain(6);
+        Chain x = new Chain(6);
         x.begin();
         Play.runUntilBlock(x, 4);
         Play.deliverAll(x, 2);
@@ -500,7 +500,7 @@ public final class CallsTest {
     }
 
     private static void promise15Account() {
-        QuorumChain x = new QuorumChain(6);
+        Chain x = new Chain(6);
         x.submit(0, x.transaction(3, 1, 40, 0));
         x.begin();
         Play.runUntilBlock(x, 4);
@@ -522,7 +522,7 @@ public final class CallsTest {
     }
 
     private static void promise16Block() {
-        QuorumChain x = Play.withBlockTwoProposed(6);
+        Chain x = Play.withBlockTwoProposed(6);
         int[] zero = {0, NONE, NONE, 1, 15};
         int[] one = {1, 0, NONE, 1, 15};
         int[] two = {2, 1, NONE, 0, 1};
@@ -543,7 +543,7 @@ public final class CallsTest {
     }
 
     private static void promise17Message() {
-        QuorumChain x = Play.withBlockTwoProposed(6);
+        Chain x = Play.withBlockTwoProposed(6);
         x.deliver(2);
         Play.ticks(x, 6);
         int[][] due = {{1, 0, 2, 0, 2}, {2, 2, 2, 0, 1}, {3, 0, 1, 2, 3}, {3, 1, 0, 1, 1}, {3, 2, 1, 2, 2},
@@ -562,7 +562,7 @@ public final class CallsTest {
         for (int i : NO_NODES) {
             Check.due("no node's message", x.message(i, 0, 0), NONE);
         }
-        QuorumChain y = askedForBlockOne();
+        Chain y = askedForBlockOne();
         int[] ask = {4, 1, 1, 0, NONE};
         int[] block = {5, 0, 1, 0, NONE};
         for (int what = 0; what < 5; what++) {
@@ -575,9 +575,9 @@ public final class CallsTest {
     }
 
     private static void promise18Root() {
-        Check.due("seed 5, node 0", new QuorumChain(5).root(0), -5117958693642979930L);
+        Check.due("seed 5, node 0", new Chain(5).root(0), -5117958693642979930L);
         for (int seed : new int[] {-1, 0, 1, Integer.MIN_VALUE, Integer.MAX_VALUE}) {
-            QuorumChain x = new QuorumChain(seed);
+            Chain x = new Chain(seed);
             NaiveChain y = new NaiveChain(seed);
             for (int i = 0; i < 4; i++) {
                 Check.due("root(" + i + ")", x.root(i), y.root(i));
@@ -591,7 +591,7 @@ public final class CallsTest {
     }
 
     private static void promise19About() {
-        QuorumChain x = Play.withBlockTwoProposed(6);
+        Chain x = Play.withBlockTwoProposed(6);
         x.transaction(0, 1, 5, 0);
         Play.ticks(x, 3);
         Check.due("the clock", x.about(0), 3);

@@ -33,20 +33,22 @@ final class Check {
         }
     }
 
-    /** The call throws IllegalArgumentException, and nothing that the face shows is changed. */
-    static void refusesArgument(String what, QuorumChain x, Call call) {
+    /** The call throws IllegalArgumentException, and nothing is changed. */
+    static void refusesArgument(String what, Chain x, Call call) {
         refuses(what, x, call, "IllegalArgumentException");
     }
 
-    /** The call throws IllegalStateException, and nothing that the face shows is changed. */
-    static void refusesState(String what, QuorumChain x, Call call) {
+    /** The call throws IllegalStateException, and nothing is changed. */
+    static void refusesState(String what, Chain x, Call call) {
         refuses(what, x, call, "IllegalStateException");
     }
 
-    private static void refuses(String what, QuorumChain x, Call call, String exception) {
-        List<Long> before = Watch.all(x);
+    private static void refuses(String what, Chain x, Call call, String exception) {
+        List<Long> before = x.all();
+        List<String> foreseen = x.foreseen();
         same(what, outcome(call), exception);
-        same("the state after " + what, Watch.all(x), before);
+        same("the state after " + what, x.all(), before);
+        same("what is to come after " + what, x.foreseen(), foreseen);
     }
 
     /** The answer as a text, or the name of what was thrown. */

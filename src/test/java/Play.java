@@ -4,52 +4,73 @@ final class Play {
     }
 
     /** Delivers so many messages to node i. */
-    static void deliver(QuorumChain x, int i, int times) {
+    static void deliver(Chain x, int i, int times) {
         for (int k = 0; k < times; k++) {
             x.deliver(i);
         }
     }
 
     /** Delivers all that is on the way to node i, also what it sends to itself meanwhile. */
-    static void deliverAll(QuorumChain x, int i) {
-        for (int k = 0; k < 100 && x.node(i, 11) > 0; k++) {
-            x.deliver(i);
+    static void deliverAll(Chain x, int i) {
+        for (int k = 0; k < 100; k++) {
+            if (tryToDeliver(x, i) == 0) {
+                return;
+            }
+        }
+    }
+
+    /** The kind of what was delivered, 0 when nothing was on the way: a call less than to look before. */
+    private static int tryToDeliver(Chain x, int i) {
+        try {
+            return x.deliver(i);
+        } catch (IllegalStateException e) {
+            return 0;
         }
     }
 
     /** Loses all that is on the way to node i. */
-    static void lose(QuorumChain x, int i) {
-        for (int k = 0; k < 16 && x.node(i, 11) > 0; k++) {
+    static void lose(Chain x, int i) {
+        int count = x.node(i, 11);
+        for (int k = 0; k < count; k++) {
             x.disturb(i, 0);
         }
     }
 
-    static void loseAll(QuorumChain x) {
+    static void loseAll(Chain x) {
         for (int i = 0; i < 4; i++) {
             lose(x, i);
         }
     }
 
-    static void ticks(QuorumChain x, int times) {
+    /** Copies the first message to node i until so many are on the way. */
+    static void fill(Chain x, int i, int count) {
+        for (int k = x.node(i, 11); k < count; k++) {
+            x.disturb(i, 2);
+        }
+    }
+
+    static void ticks(Chain x, int times) {
         for (int k = 0; k < times; k++) {
             x.tick();
         }
     }
 
-    /** Delivers to one node after the other until nothing is on the way, or block b is there. */
-    static void runUntilBlock(QuorumChain x, int b) {
-        for (int round = 0; round < 200 && x.about(1) <= b; round++) {
-            for (int i = 0; i < 4 && x.about(1) <= b; i++) {
-                if (x.node(i, 11) > 0) {
-                    x.deliver(i);
+    /** Delivers to one node after the other until block b is there. */
+    static void runUntilBlock(Chain x, int b) {
+        int blocks = x.about(1);
+        for (int round = 0; round < 200 && blocks <= b; round++) {
+            for (int i = 0; i < 4 && blocks <= b; i++) {
+                int kind = tryToDeliver(x, i);
+                if (kind == 2 || kind == 3) {
+                    blocks = x.about(1);
                 }
             }
         }
     }
 
     /** All four vote for block 1, and node 0 has proposed block 2 on it; nothing else is on the way. */
-    static QuorumChain withBlockTwoProposed(int seed) {
-        QuorumChain x = new QuorumChain(seed);
+    static Chain withBlockTwoProposed(int seed) {
+        Chain x = new Chain(seed);
         x.begin();
         for (int i = 0; i < 4; i++) {
             x.deliver(i);

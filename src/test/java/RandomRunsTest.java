@@ -3,25 +3,24 @@ import java.util.TreeMap;
 
 /**
  * Runs of 512 calls, drawn from a fixed seed, on the program and on the document read a second time
- * (NaiveChain): every answer and all that the face shows is the same after each call.
+ * (NaiveChain): every answer is the same, and so is, from time to time, all that the face shows.
  */
 public final class RandomRunsTest {
     private static final int RUNS = 240;
-    private static final int CALLS = 512;
+    private static final int CALLS_OF_A_TURN = 6;
     private static final long[] MASKS = {0, 1, -1, Long.MIN_VALUE, 1L << 40};
 
-    private final QuorumChain x;
+    private final Chain x;
     private final NaiveChain y;
     private final Random random;
     private final int manner;
     private final String name;
-    private int made = 0;
     private static final TreeMap<String, Integer> SEEN = new TreeMap<>();
 
     private RandomRunsTest(int run) {
         random = new Random(run);
         int seed = run % 5 == 0 ? random.nextInt() : run;
-        x = new QuorumChain(seed);
+        x = new Chain(seed);
         y = new NaiveChain(seed);
         manner = run % 7;
         name = "run " + run;
@@ -41,16 +40,20 @@ public final class RandomRunsTest {
     }
 
     private void play() {
-        Check.same(name + ", new", Watch.all(x), Watch.all(y));
-        for (int turn = 0; made < CALLS && Check.wrongSoFar() == 0; turn++) {
+        Check.same(name + ", new", x.all(), Watch.all(y));
+        for (int turn = 0; x.callsLeft() >= CALLS_OF_A_TURN && Check.wrongSoFar() == 0; turn++) {
             String what = name + ", turn " + turn;
             if (turn == manner) {
                 both(what + " begin", () -> x.begin(), () -> y.begin());
             } else {
                 playOne(what);
             }
-            Check.same(what + ", state", Watch.all(x), Watch.all(y));
+            playReading(what);
+            if (turn % 50 == 49) {
+                Check.same(what + ", state", x.all(), Watch.all(y));
+            }
         }
+        Check.same(name + ", in the end", x.all(), Watch.all(y));
         lookBack();
     }
 
@@ -67,6 +70,21 @@ public final class RandomRunsTest {
         } else {
             int i = someNodeWithMessages();
             both(what + " deliver " + i, () -> x.deliver(i), () -> y.deliver(i));
+        }
+    }
+
+    private void playReading(String what) {
+        int i = random.nextInt(4);
+        int k = random.nextInt(3);
+        int about = random.nextInt(13) - 1;
+        switch (random.nextInt(12)) {
+            case 0 -> both(what + " node", () -> x.node(i, about), () -> y.node(i, about));
+            case 1 -> both(what + " message", () -> x.message(i, k, about), () -> y.message(i, k, about));
+            case 2 -> both(what + " block", () -> x.block(y.about(1) - k, about),
+                    () -> y.block(y.about(1) - k, about));
+            case 3 -> both(what + " log", () -> x.log(i, about), () -> y.log(i, about));
+            case 4 -> both(what + " account", () -> x.account(i, k, about % 2), () -> y.account(i, k, about % 2));
+            default -> { }
         }
     }
 
@@ -136,7 +154,6 @@ public final class RandomRunsTest {
     }
 
     private void both(String what, Check.Call ours, Check.Call theirs) {
-        made++;
         String got = Check.outcome(ours);
         Check.same(what, got, Check.outcome(theirs));
         if (what.contains("deliver")) {

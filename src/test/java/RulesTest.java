@@ -36,7 +36,7 @@ public final class RulesTest {
     }
 
     private static void leadersChangeEveryFourViews() {
-        QuorumChain x = new QuorumChain(9);
+        Chain x = new Chain(9);
         x.begin();
         Play.runUntilBlock(x, 13);
         for (int b = 1; b <= 13; b++) {
@@ -50,7 +50,7 @@ public final class RulesTest {
     }
 
     private static void aProposalIsVotedForOnce() {
-        QuorumChain x = new QuorumChain(3);
+        Chain x = new Chain(3);
         x.begin();
         x.disturb(1, 2);
         x.tick();
@@ -74,7 +74,7 @@ public final class RulesTest {
     }
 
     private static void threeVotesCertify() {
-        QuorumChain x = new QuorumChain(3);
+        Chain x = new Chain(3);
         x.begin();
         for (int i = 0; i < 4; i++) {
             x.deliver(i);
@@ -95,7 +95,7 @@ public final class RulesTest {
     }
 
     private static void votesAreCountedOncePerNode() {
-        QuorumChain x = new QuorumChain(3);
+        Chain x = new Chain(3);
         x.begin();
         x.deliver(0);
         Play.deliver(x, 1, 1);
@@ -113,7 +113,7 @@ public final class RulesTest {
     }
 
     private static void votesCountOnlyAtTheNextLeader() {
-        QuorumChain x = new QuorumChain(3);
+        Chain x = new Chain(3);
         x.begin();
         for (int i = 1; i < 4; i++) {
             x.deliver(i);
@@ -124,7 +124,7 @@ public final class RulesTest {
         }
         Play.deliverAll(x, 1);
         Check.due("votes to one who does not lead", x.block(1, 3), 0);
-        QuorumChain y = new QuorumChain(3);
+        Chain y = new Chain(3);
         y.begin();
         Play.runUntilBlock(y, 4);
         Play.lose(y, 1);
@@ -139,7 +139,7 @@ public final class RulesTest {
     }
 
     private static void votesAreForgottenInACrash() {
-        QuorumChain x = new QuorumChain(3);
+        Chain x = new Chain(3);
         x.begin();
         x.deliver(0);
         x.deliver(1);
@@ -153,8 +153,8 @@ public final class RulesTest {
     }
 
     /** Block 1 has three votes on the way to node 0, which timeouts have brought to view v. */
-    private static QuorumChain votesBehindTimeouts(int v) {
-        QuorumChain x = new QuorumChain(3);
+    private static Chain votesBehindTimeouts(int v) {
+        Chain x = new Chain(3);
         x.begin();
         for (int i = 0; i < 3; i++) {
             x.deliver(i);
@@ -178,7 +178,7 @@ public final class RulesTest {
     }
 
     private static void votesForTheViewBeforeStillCount() {
-        QuorumChain x = votesBehindTimeouts(2);
+        Chain x = votesBehindTimeouts(2);
         Check.due("node 0's view", x.node(0, 1), 2);
         Check.due("its block for view 2", x.block(2, 1), 0);
         Check.due("three votes are on the way", x.node(0, 11), 3);
@@ -193,7 +193,7 @@ public final class RulesTest {
     }
 
     private static void lateVotesCertifyAndNoMore() {
-        QuorumChain x = votesBehindTimeouts(3);
+        Chain x = votesBehindTimeouts(3);
         Check.due("node 0's view", x.node(0, 1), 3);
         Check.due("blocks", x.about(1), 4);
         Play.deliver(x, 0, 3);
@@ -204,7 +204,7 @@ public final class RulesTest {
     }
 
     /** Loses the proposals to node 0, which stand behind so many votes that are kept. */
-    private static void loseBehindVotes(QuorumChain x, int votes) {
+    private static void loseBehindVotes(Chain x, int votes) {
         int others = x.node(0, 11) - votes;
         bringBehindVotesFirst(x, votes);
         for (int k = 0; k < others; k++) {
@@ -212,14 +212,14 @@ public final class RulesTest {
         }
     }
 
-    private static void bringBehindVotesFirst(QuorumChain x, int votes) {
+    private static void bringBehindVotesFirst(Chain x, int votes) {
         for (int k = 0; k < votes; k++) {
             x.disturb(0, 1);
         }
     }
 
     private static void votesForABlockBelowHighOnlyCertify() {
-        QuorumChain x = new QuorumChain(21);
+        Chain x = new Chain(21);
         x.begin();
         for (int i = 0; i < 3; i++) {
             x.deliver(i);
@@ -256,7 +256,7 @@ public final class RulesTest {
     }
 
     private static void threeInARowCommit() {
-        QuorumChain x = new QuorumChain(11);
+        Chain x = new Chain(11);
         x.begin();
         Play.runUntilBlock(x, 3);
         Play.deliver(x, 2, 1);
@@ -277,7 +277,7 @@ public final class RulesTest {
     }
 
     private static void brokenRowsDoNotCommit() {
-        QuorumChain x = new QuorumChain(11);
+        Chain x = new Chain(11);
         x.begin();
         Play.runUntilBlock(x, 3);
         Play.deliverAll(x, 3);
@@ -289,7 +289,7 @@ public final class RulesTest {
     }
 
     private static void committingWaitsForThreeViewsInARow() {
-        QuorumChain x = new QuorumChain(11);
+        Chain x = new Chain(11);
         x.begin();
         Play.runUntilBlock(x, 3);
         Play.loseAll(x);
@@ -316,7 +316,7 @@ public final class RulesTest {
     }
 
     private static void transactionsAreCarriedOutInOrder() {
-        QuorumChain x = new QuorumChain(12);
+        Chain x = new Chain(12);
         int[][] given = {{0, 1, 70, 0}, {1, 2, 170, 0}, {0, 3, 31, 1}, {0, 3, 5, 0}, {0, 3, 30, 1},
             {3, 3, 130, 0}, {3, 3, 131, 1}, {2, 0, 0, 0}, {2, 1, 270, 1}};
         for (int[] t : given) {
@@ -342,7 +342,7 @@ public final class RulesTest {
     }
 
     private static void transactionsAreTakenOnceInAChain() {
-        QuorumChain x = new QuorumChain(12);
+        Chain x = new Chain(12);
         x.transaction(0, 1, 1, 0);
         x.transaction(0, 1, 2, 0);
         x.submit(0, 1);
@@ -352,7 +352,7 @@ public final class RulesTest {
         Play.runUntilBlock(x, 3);
         Check.due("the next of it", x.block(2, 2), 0);
         Check.due("none is left", x.block(3, 2), NONE);
-        QuorumChain y = new QuorumChain(12);
+        Chain y = new Chain(12);
         y.submit(0, y.transaction(0, 1, 1, 0));
         y.begin();
         Play.loseAll(y);
@@ -363,7 +363,7 @@ public final class RulesTest {
     }
 
     private static void aLockHoldsTheVote() {
-        QuorumChain x = new QuorumChain(13);
+        Chain x = new Chain(13);
         x.begin();
         Play.runUntilBlock(x, 3);
         Play.deliverAll(x, 1);
@@ -395,8 +395,8 @@ public final class RulesTest {
      * blocks 1 to 3. Lies bring these three to view 13, timeouts to view 14, and node 3 proposes block 7 on
      * block 0, which they certify; block 8 on it is on the way to all.
      */
-    private static QuorumChain forked() {
-        QuorumChain x = lockedAtNodeTwo();
+    private static Chain forked() {
+        Chain x = lockedAtNodeTwo();
         for (int i : new int[] {0, 1, 3}) {
             x.lie(i, 13, 0, NONE);
         }
@@ -412,8 +412,8 @@ public final class RulesTest {
         return x;
     }
 
-    private static QuorumChain lockedAtNodeTwo() {
-        QuorumChain x = new QuorumChain(3);
+    private static Chain lockedAtNodeTwo() {
+        Chain x = new Chain(3);
         x.begin();
         for (int b = 1; b <= 2; b++) {
             Play.lose(x, 3);
@@ -430,7 +430,7 @@ public final class RulesTest {
     }
 
     private static void aHigherCertificateOpensTheLock() {
-        QuorumChain x = forked();
+        Chain x = forked();
         Check.due("node 2 has locked block 1", x.node(2, 6), 1);
         Check.due("view of block 7", x.block(7, 0), 14);
         Check.due("parent of block 7", x.block(7, 1), 0);
@@ -453,7 +453,7 @@ public final class RulesTest {
     }
 
     private static void spansDoubleAndFallBack() {
-        QuorumChain x = new QuorumChain(14);
+        Chain x = new Chain(14);
         int[] spans = {6, 12, 24, 24, 24};
         for (int k = 0; k < 4; k++) {
             Check.due("the span", x.node(1, 3), spans[k]);
@@ -473,7 +473,7 @@ public final class RulesTest {
     }
 
     private static void threeTimeoutsChangeTheView() {
-        QuorumChain x = new QuorumChain(15);
+        Chain x = new Chain(15);
         Play.ticks(x, 6);
         x.tick();
         Play.deliver(x, 1, 2);
@@ -488,7 +488,7 @@ public final class RulesTest {
         Play.deliver(x, 0, 3);
         Check.due("node 0 does", x.about(1), 2);
         Check.due("and proposes in it", x.block(1, 0), 2);
-        QuorumChain y = lieToThree(15);
+        Chain y = lieToThree(15);
         Play.ticks(y, 6);
         Play.lose(y, 0);
         Check.due("node 0's view", y.node(0, 1), 1);
@@ -505,8 +505,8 @@ public final class RulesTest {
     }
 
     /** Nodes 1, 2 and 3 believe lies with view 14. */
-    private static QuorumChain lieToThree(int seed) {
-        QuorumChain x = new QuorumChain(seed);
+    private static Chain lieToThree(int seed) {
+        Chain x = new Chain(seed);
         for (int i = 1; i < 4; i++) {
             x.lie(i, 14, 0, NONE);
             Play.deliverAll(x, i);
@@ -516,7 +516,7 @@ public final class RulesTest {
     }
 
     private static void timeoutsAreCountedOncePerNode() {
-        QuorumChain x = new QuorumChain(15);
+        Chain x = new Chain(15);
         x.crash(2);
         x.crash(3);
         Play.ticks(x, 18);
@@ -531,11 +531,11 @@ public final class RulesTest {
         Check.due("a spoiled one does not count", x.node(1, 1), 1);
         Play.deliverAll(x, 1);
         Check.due("the third node's", x.node(1, 1), 2);
-        QuorumChain y = lieToThree(15);
+        Chain y = lieToThree(15);
         Play.ticks(y, 6);
         Play.deliver(y, 2, 4);
         Check.due("node 2 in view 15", y.node(2, 1), 15);
-        QuorumChain z = new QuorumChain(15);
+        Chain z = new Chain(15);
         Play.ticks(z, 6);
         z.lie(2, 14, 0, NONE);
         for (int k = 0; k < 4; k++) {
@@ -546,7 +546,7 @@ public final class RulesTest {
     }
 
     private static void timeoutsBringHigh() {
-        QuorumChain x = Play.withBlockTwoProposed(16);
+        Chain x = Play.withBlockTwoProposed(16);
         Play.lose(x, 1);
         Play.lose(x, 2);
         Check.due("node 1's HIGH", x.node(1, 4), 0);
@@ -557,7 +557,7 @@ public final class RulesTest {
         x.crash(1);
         x.restart(1);
         Check.due("a crash loses it", x.node(1, 4), 0);
-        QuorumChain y = lockedAtNodeTwo();
+        Chain y = lockedAtNodeTwo();
         Play.ticks(y, 6);
         y.deliver(3);
         Check.due("what node 3 has not does not", y.node(3, 4), 0);
@@ -568,7 +568,7 @@ public final class RulesTest {
     }
 
     private static void timeoutsAreForgottenInACrash() {
-        QuorumChain x = new QuorumChain(16);
+        Chain x = new Chain(16);
         Play.ticks(x, 6);
         Play.deliver(x, 1, 2);
         x.crash(1);
@@ -586,7 +586,7 @@ public final class RulesTest {
     }
 
     private static void missingBlocksAreAskedFor() {
-        QuorumChain x = new QuorumChain(17);
+        Chain x = new Chain(17);
         x.begin();
         Play.lose(x, 1);
         for (int i : new int[] {0, 2, 3}) {
@@ -607,7 +607,7 @@ public final class RulesTest {
         Check.due("it does not vote for a block that was sent", x.node(1, 5), 0);
         x.deliver(1);
         Check.due("it votes for the copy of the proposal", x.node(1, 5), 2);
-        QuorumChain y = Play.withBlockTwoProposed(17);
+        Chain y = Play.withBlockTwoProposed(17);
         Play.lose(y, 1);
         y.deliver(3);
         y.lie(1, 13, 1, NONE);
@@ -616,7 +616,7 @@ public final class RulesTest {
     }
 
     private static void askingGoesDownTheChain() {
-        QuorumChain x = new QuorumChain(18);
+        Chain x = new Chain(18);
         x.begin();
         for (int b = 1; b <= 2; b++) {
             Play.lose(x, 3);
@@ -643,7 +643,7 @@ public final class RulesTest {
     }
 
     private static void messagesToItselfDoNotSpoilTheArrivedOne() {
-        QuorumChain x = new QuorumChain(19);
+        Chain x = new Chain(19);
         x.begin();
         for (int k = 1; k < 16; k++) {
             x.disturb(0, 2);
@@ -659,7 +659,7 @@ public final class RulesTest {
     }
 
     private static void withoutKeysNothingIsSent() {
-        QuorumChain x = new QuorumChain(20);
+        Chain x = new Chain(20);
         x.begin();
         for (int i = 0; i < 3; i++) {
             x.lie(i, 14, 0, NONE);
@@ -685,7 +685,7 @@ public final class RulesTest {
     }
 
     private static void startTakesTheHighestParent() {
-        QuorumChain x = forked();
+        Chain x = forked();
         Play.deliverAll(x, 2);
         x.crash(2);
         x.restart(2);

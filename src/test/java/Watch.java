@@ -23,10 +23,6 @@ final class Watch {
     private Watch() {
     }
 
-    static List<Long> all(QuorumChain x) {
-        return all(readable(x));
-    }
-
     static List<Long> all(Readable x) {
         List<Long> row = new ArrayList<>();
         for (int what = -1; what <= 3; what++) {
@@ -64,37 +60,5 @@ final class Watch {
                 row.add((long) x.message(i, k, what));
             }
         }
-    }
-
-    private static Readable readable(QuorumChain x) {
-        return new Readable() {
-            public int node(int i, int what) {
-                return x.node(i, what);
-            }
-
-            public int log(int i, int k) {
-                return x.log(i, k);
-            }
-
-            public int account(int i, int a, int what) {
-                return x.account(i, a, what);
-            }
-
-            public int block(int b, int what) {
-                return x.block(b, what);
-            }
-
-            public int message(int i, int k, int what) {
-                return x.message(i, k, what);
-            }
-
-            public long root(int i) {
-                return x.root(i);
-            }
-
-            public int about(int what) {
-                return x.about(what);
-            }
-        };
     }
 }
