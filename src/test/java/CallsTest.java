@@ -273,26 +273,12 @@ public final class CallsTest {
         Play.lose(x, 0);
         Check.refusesState("alter nothing", x, () -> x.alter(0, 0, 1));
         Check.refusesArgument("alter no long of nothing", x, () -> x.alter(0, 11, 1));
-        Chain y = askedForBlockOne();
+        Chain y = Scenes.askedForBlockOne();
         Check.due("an ask", y.message(0, 0, 0), 4);
         Check.refusesState("alter an ask", y, () -> y.alter(0, 0, 1));
         y.deliver(0);
         Check.due("a block", y.message(1, 0, 0), 5);
         Check.refusesState("alter a block", y, () -> y.alter(1, 10, 1));
-    }
-
-    /** Node 1 never saw block 1, got block 2, and has asked node 0; nothing else is on the way to both. */
-    private static Chain askedForBlockOne() {
-        Chain x = new Chain(2);
-        x.begin();
-        Play.lose(x, 1);
-        for (int i : new int[] {0, 2, 3}) {
-            x.deliver(i);
-        }
-        Play.deliver(x, 0, 3);
-        Play.lose(x, 0);
-        x.deliver(1);
-        return x;
     }
 
     private static void promise8Lie() {
@@ -325,7 +311,7 @@ public final class CallsTest {
     }
 
     private static void promise8LieIsRefused() {
-        Chain x = Play.withBlockTwoProposed(6);
+        Chain x = Scenes.withBlockTwoProposed(6);
         x.transaction(0, 1, 5, 0);
         for (int i : NO_NODES) {
             Check.refusesArgument("lie to no node", x, () -> x.lie(i, 13, 0, NONE));
@@ -420,7 +406,7 @@ public final class CallsTest {
     }
 
     private static void promise11Crash() {
-        Chain x = Play.withBlockTwoProposed(6);
+        Chain x = Scenes.withBlockTwoProposed(6);
         x.transaction(0, 1, 5, 0);
         x.submit(1, 0);
         x.deliver(1);
@@ -443,7 +429,7 @@ public final class CallsTest {
     }
 
     private static void promise12Restart() {
-        Chain x = Play.withBlockTwoProposed(6);
+        Chain x = Scenes.withBlockTwoProposed(6);
         x.deliver(1);
         for (int i : NO_NODES) {
             Check.refusesArgument("restart no node", x, () -> x.restart(i));
@@ -463,7 +449,7 @@ public final class CallsTest {
     }
 
     private static void promise13Node() {
-        Chain x = Play.withBlockTwoProposed(6);
+        Chain x = Scenes.withBlockTwoProposed(6);
         x.transaction(0, 1, 5, 0);
         x.submit(0, 0);
         x.tick();
@@ -522,7 +508,7 @@ public final class CallsTest {
     }
 
     private static void promise16Block() {
-        Chain x = Play.withBlockTwoProposed(6);
+        Chain x = Scenes.withBlockTwoProposed(6);
         int[] zero = {0, NONE, NONE, 1, 15};
         int[] one = {1, 0, NONE, 1, 15};
         int[] two = {2, 1, NONE, 0, 1};
@@ -543,7 +529,7 @@ public final class CallsTest {
     }
 
     private static void promise17Message() {
-        Chain x = Play.withBlockTwoProposed(6);
+        Chain x = Scenes.withBlockTwoProposed(6);
         x.deliver(2);
         Play.ticks(x, 6);
         int[][] due = {{1, 0, 2, 0, 2}, {2, 2, 2, 0, 1}, {3, 0, 1, 2, 3}, {3, 1, 0, 1, 1}, {3, 2, 1, 2, 2},
@@ -562,7 +548,7 @@ public final class CallsTest {
         for (int i : NO_NODES) {
             Check.due("no node's message", x.message(i, 0, 0), NONE);
         }
-        Chain y = askedForBlockOne();
+        Chain y = Scenes.askedForBlockOne();
         int[] ask = {4, 1, 1, 0, NONE};
         int[] block = {5, 0, 1, 0, NONE};
         for (int what = 0; what < 5; what++) {
@@ -591,7 +577,7 @@ public final class CallsTest {
     }
 
     private static void promise19About() {
-        Chain x = Play.withBlockTwoProposed(6);
+        Chain x = Scenes.withBlockTwoProposed(6);
         x.transaction(0, 1, 5, 0);
         Play.ticks(x, 3);
         Check.due("the clock", x.about(0), 3);

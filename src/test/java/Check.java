@@ -8,8 +8,26 @@ final class Check {
 
     private static int wrong = 0;
     private static int made = 0;
+    private static int sentences = 0;
+    private static String sentence = "";
 
     private Check() {
+    }
+
+    /** Runs the test of one sentence of the document; a test that looks at nothing is wrong too. */
+    static void sentence(String text, Runnable test) {
+        int before = made;
+        sentences++;
+        sentence = "[" + text + "] ";
+        try {
+            test.run();
+        } catch (RuntimeException | AssertionError e) {
+            tell("threw " + e);
+        }
+        if (made == before) {
+            tell("nothing was looked at");
+        }
+        sentence = "";
     }
 
     static void due(String what, long got, long want) {
@@ -65,7 +83,7 @@ final class Check {
     }
 
     static void end() {
-        System.out.println(made + " answers looked at, " + wrong + " not as due");
+        System.out.println(sentences + " sentences, " + made + " answers looked at, " + wrong + " not as due");
         if (wrong != 0 || made == 0) {
             System.exit(1);
         }
@@ -74,7 +92,7 @@ final class Check {
     private static void tell(String text) {
         wrong++;
         if (wrong <= 40) {
-            System.out.println(text);
+            System.out.println(sentence + text);
         }
     }
 }

@@ -68,14 +68,16 @@ final class Play {
         }
     }
 
-    /** All four vote for block 1, and node 0 has proposed block 2 on it; nothing else is on the way. */
-    static Chain withBlockTwoProposed(int seed) {
-        Chain x = new Chain(seed);
-        x.begin();
-        for (int i = 0; i < 4; i++) {
-            x.deliver(i);
+    /** Delivers to the nodes but node i until block b is there; what goes to node i stays on the way. */
+    static void runOthersUntilBlock(Chain x, int i, int b) {
+        int blocks = x.about(1);
+        for (int round = 0; round < 200 && blocks <= b; round++) {
+            for (int j = 0; j < 4 && blocks <= b; j++) {
+                int kind = j == i ? 0 : tryToDeliver(x, j);
+                if (kind == 2 || kind == 3) {
+                    blocks = x.about(1);
+                }
+            }
         }
-        deliver(x, 0, 4);
-        return x;
     }
 }

@@ -390,47 +390,8 @@ public final class RulesTest {
         Check.due("no vote in a view that is over", x.node(1, 5), 14);
     }
 
-    /**
-     * Node 2 has locked block 1 (view 1); nodes 0, 1 and 3 have locked nothing, and node 3 knows nothing of
-     * blocks 1 to 3. Lies bring these three to view 13, timeouts to view 14, and node 3 proposes block 7 on
-     * block 0, which they certify; block 8 on it is on the way to all.
-     */
-    private static Chain forked() {
-        Chain x = lockedAtNodeTwo();
-        for (int i : new int[] {0, 1, 3}) {
-            x.lie(i, 13, 0, NONE);
-        }
-        Play.deliver(x, 0, 2);
-        x.deliver(1);
-        Play.deliver(x, 3, 4);
-        Play.ticks(x, 6);
-        Play.deliver(x, 3, 4);
-        for (int i = 0; i < 3; i++) {
-            Play.deliver(x, i, 5);
-        }
-        Play.deliver(x, 3, 4);
-        return x;
-    }
-
-    private static Chain lockedAtNodeTwo() {
-        Chain x = new Chain(3);
-        x.begin();
-        for (int b = 1; b <= 2; b++) {
-            Play.lose(x, 3);
-            for (int i = 0; i < 3; i++) {
-                x.deliver(i);
-            }
-            Play.deliver(x, 0, 3);
-        }
-        Play.lose(x, 3);
-        Play.lose(x, 1);
-        Play.lose(x, 0);
-        x.deliver(2);
-        return x;
-    }
-
     private static void aHigherCertificateOpensTheLock() {
-        Chain x = forked();
+        Chain x = Scenes.forked();
         Check.due("node 2 has locked block 1", x.node(2, 6), 1);
         Check.due("view of block 7", x.block(7, 0), 14);
         Check.due("parent of block 7", x.block(7, 1), 0);
@@ -546,7 +507,7 @@ public final class RulesTest {
     }
 
     private static void timeoutsBringHigh() {
-        Chain x = Play.withBlockTwoProposed(16);
+        Chain x = Scenes.withBlockTwoProposed(16);
         Play.lose(x, 1);
         Play.lose(x, 2);
         Check.due("node 1's HIGH", x.node(1, 4), 0);
@@ -557,7 +518,7 @@ public final class RulesTest {
         x.crash(1);
         x.restart(1);
         Check.due("a crash loses it", x.node(1, 4), 0);
-        Chain y = lockedAtNodeTwo();
+        Chain y = Scenes.lockedAtNodeTwo();
         Play.ticks(y, 6);
         y.deliver(3);
         Check.due("what node 3 has not does not", y.node(3, 4), 0);
@@ -607,7 +568,7 @@ public final class RulesTest {
         Check.due("it does not vote for a block that was sent", x.node(1, 5), 0);
         x.deliver(1);
         Check.due("it votes for the copy of the proposal", x.node(1, 5), 2);
-        Chain y = Play.withBlockTwoProposed(17);
+        Chain y = Scenes.withBlockTwoProposed(17);
         Play.lose(y, 1);
         y.deliver(3);
         y.lie(1, 13, 1, NONE);
@@ -685,7 +646,7 @@ public final class RulesTest {
     }
 
     private static void startTakesTheHighestParent() {
-        Chain x = forked();
+        Chain x = Scenes.forked();
         Play.deliverAll(x, 2);
         x.crash(2);
         x.restart(2);

@@ -1,0 +1,155 @@
+/** States that the tests share. */
+final class Scenes {
+    private Scenes() {
+    }
+
+    /** All four vote for block 1, and node 0 has proposed block 2 on it; nothing else is on the way. */
+    static Chain withBlockTwoProposed(int seed) {
+        Chain x = new Chain(seed);
+        x.begin();
+        for (int i = 0; i < 4; i++) {
+            x.deliver(i);
+        }
+        Play.deliver(x, 0, 4);
+        return x;
+    }
+
+    /** Node 1 never saw block 1, got block 2, and has asked node 0; nothing else is on the way to both. */
+    static Chain askedForBlockOne() {
+        Chain x = new Chain(2);
+        x.begin();
+        Play.lose(x, 1);
+        for (int i : new int[] {0, 2, 3}) {
+            x.deliver(i);
+        }
+        Play.deliver(x, 0, 3);
+        Play.lose(x, 0);
+        x.deliver(1);
+        return x;
+    }
+
+    /**
+     * Node 2 has locked block 1 (view 1); nodes 0, 1 and 3 have locked nothing, and node 3 knows nothing of
+     * blocks 1 to 3. Lies bring these three to view 13, timeouts to view 14, and node 3 proposes block 7 on
+     * block 0, which they certify; block 8 on it is on the way to all.
+     */
+    static Chain forked() {
+        Chain x = lockedAtNodeTwo();
+        for (int i : new int[] {0, 1, 3}) {
+            x.lie(i, 13, 0, QuorumChain.NONE);
+        }
+        Play.deliver(x, 0, 2);
+        x.deliver(1);
+        Play.deliver(x, 3, 4);
+        Play.ticks(x, 6);
+        Play.deliver(x, 3, 4);
+        for (int i = 0; i < 3; i++) {
+            Play.deliver(x, i, 5);
+        }
+        Play.deliver(x, 3, 4);
+        return x;
+    }
+
+    static Chain lockedAtNodeTwo() {
+        Chain x = new Chain(3);
+        x.begin();
+        for (int b = 1; b <= 2; b++) {
+            Play.lose(x, 3);
+            for (int i = 0; i < 3; i++) {
+                x.deliver(i);
+            }
+            Play.deliver(x, 0, 3);
+        }
+        Play.lose(x, 3);
+        Play.lose(x, 1);
+        Play.lose(x, 0);
+        x.deliver(2);
+        return x;
+    }
+
+    /** Node i has used so many keys for timeouts of view 1; all are up, and nothing is on the way. */
+    static Chain withKeysUsed(int i, int count) {
+        Chain x = new Chain(23);
+        for (int j = 0; j < 4; j++) {
+            if (j != i) {
+                x.crash(j);
+            }
+        }
+        for (int k = 0; k < count; k++) {
+            Play.ticks(x, 6);
+            x.crash(i);
+            x.restart(i);
+        }
+        for (int j = 0; j < 4; j++) {
+            if (j != i) {
+                x.restart(j);
+                x.crash(j);
+                x.restart(j);
+            }
+        }
+        return x;
+    }
+
+    /** Block 1 is proposed, and node 3 has used so many keys for votes; nothing is on the way to node 0. */
+    static Chain withLiarsKeysUsed(int count) {
+        Chain x = new Chain(24);
+        x.begin();
+        x.disturb(0, 0);
+        for (int k = 0; k < count; k++) {
+            x.lieVote(1, 1);
+        }
+        return x;
+    }
+
+    /** All four have timed out in view 1: four timeouts are on the way to each. */
+    static Chain timedOut(int seed) {
+        Chain x = new Chain(seed);
+        Play.ticks(x, 6);
+        return x;
+    }
+
+    /**
+     * Block 1 (view 1) and block 2 (view 2) are both on block 0 and certified; node 2 has locked block 1, by
+     * block 8 of view 14 on it and block 9 of view 15 on that. Node 0 is down; nothing is on the way to node 2.
+     */
+    static Chain lockedBesideANextView() {
+        Chain x = new Chain(60);
+        x.begin();
+        for (int i = 0; i < 3; i++) {
+            x.deliver(i);
+        }
+        Play.ticks(x, 6);
+        behind(x, 0, 3);
+        Play.deliver(x, 0, 4);
+        behind(x, 0, 3);
+        x.deliver(0);
+        Play.deliver(x, 1, 5);
+        Play.deliver(x, 2, 5);
+        Play.deliver(x, 3, 6);
+        Play.deliver(x, 0, 6);
+        x.crash(0);
+        for (int i = 1; i < 4; i++) {
+            x.deliver(i);
+            Play.lose(x, i);
+        }
+        for (int i = 1; i < 4; i++) {
+            x.lie(i, 13, 1, QuorumChain.NONE);
+            Play.deliver(x, i, i == 3 ? 3 : 1);
+        }
+        Play.lose(x, 3);
+        Play.ticks(x, 12);
+        for (int i : new int[] {3, 1, 2}) {
+            Play.deliver(x, i, 4);
+        }
+        Play.deliver(x, 3, 3);
+        x.deliver(2);
+        return x;
+    }
+
+    /** The first messages to node i go behind all others, one after the other. */
+    private static void behind(Chain x, int i, int count) {
+        for (int k = 0; k < count; k++) {
+            x.disturb(i, 1);
+        }
+    }
+}
