@@ -152,4 +152,25 @@ final class Scenes {
             x.disturb(i, 1);
         }
     }
+
+    static Chain withTransactions(int count) {
+        Chain x = new Chain(1);
+        for (int t = 0; t < count; t++) {
+            x.transaction(0, 1, 1, 0);
+        }
+        return x;
+    }
+
+    /** Node 1 has not block 1, and block 2 on it is on the way to it, so many times. */
+    static Chain blockOneIsMissing(int copies) {
+        Chain x = new Chain(45);
+        x.begin();
+        x.disturb(1, 0);
+        for (int i : new int[] {0, 2, 3}) {
+            x.deliver(i);
+        }
+        Play.deliver(x, 0, 3);
+        Play.fill(x, 1, copies);
+        return x;
+    }
 }
