@@ -7,7 +7,7 @@ import java.util.function.Function;
  * may change something are remembered, so that all that the face shows can be read on other objects that have
  * been called in the same way.
  */
-final class Chain implements Watch.Readable {
+final class Chain implements Face {
     static final int CALLS = 512;
     private static final int FORESEEN = 218;
 
@@ -60,47 +60,47 @@ final class Chain implements Watch.Readable {
         return answers;
     }
 
-    int transaction(int from, int to, int amount, int nonce) {
+    public int transaction(int from, int to, int amount, int nonce) {
         return move(y -> y.transaction(from, to, amount, nonce));
     }
 
-    boolean submit(int i, int t) {
+    public boolean submit(int i, int t) {
         return move(y -> y.submit(i, t));
     }
 
-    boolean begin() {
+    public boolean begin() {
         return move(y -> y.begin());
     }
 
-    int deliver(int i) {
+    public int deliver(int i) {
         return move(y -> y.deliver(i));
     }
 
-    boolean disturb(int i, int how) {
+    public boolean disturb(int i, int how) {
         return move(y -> y.disturb(i, how));
     }
 
-    boolean alter(int i, int which, long mask) {
+    public boolean alter(int i, int which, long mask) {
         return move(y -> y.alter(i, which, mask));
     }
 
-    int lie(int i, int v, int p, int t) {
+    public int lie(int i, int v, int p, int t) {
         return move(y -> y.lie(i, v, p, t));
     }
 
-    boolean lieVote(int i, int b) {
+    public boolean lieVote(int i, int b) {
         return move(y -> y.lieVote(i, b));
     }
 
-    int tick() {
+    public int tick() {
         return move(y -> y.tick());
     }
 
-    boolean crash(int i) {
+    public boolean crash(int i) {
         return move(y -> y.crash(i));
     }
 
-    boolean restart(int i) {
+    public boolean restart(int i) {
         return move(y -> y.restart(i));
     }
 

@@ -13,7 +13,7 @@ import java.util.TreeMap;
  * The document read a second time, with the Java library and without care for room or speed.
  * A signature is good here when nothing was altered, or altered back.
  */
-final class NaiveChain implements Watch.Readable {
+final class NaiveChain implements Face {
     private static final class Blk {
         int number;
         int view;
@@ -277,27 +277,27 @@ final class NaiveChain implements Watch.Readable {
         return in(t, 0, transactions.size() - 1);
     }
 
-    int transaction(int from, int to, int amount, int nonce) {
+    public int transaction(int from, int to, int amount, int nonce) {
         argument(in(from, 0, 3) && in(to, 0, 3) && in(amount, 0, 1000) && in(nonce, 0, 1000));
         state(transactions.size() < 40);
         transactions.add(new int[] {from, to, amount, nonce});
         return transactions.size() - 1;
     }
 
-    boolean submit(int i, int t) {
+    public boolean submit(int i, int t) {
         argument(in(i, 0, 3) && isTransaction(t));
         state(peers[i].up);
         return !peers[i].pool.contains(t) && peers[i].pool.add(t);
     }
 
-    boolean begin() {
+    public boolean begin() {
         state(!begun && peers[0].up && peers[0].view == 1);
         begun = true;
         peers[0].propose();
         return true;
     }
 
-    int deliver(int i) {
+    public int deliver(int i) {
         argument(in(i, 0, 3));
         Peer n = peers[i];
         state(!n.coming.isEmpty());
@@ -329,7 +329,7 @@ final class NaiveChain implements Watch.Readable {
         return m.kind();
     }
 
-    boolean disturb(int i, int how) {
+    public boolean disturb(int i, int how) {
         argument(in(i, 0, 3) && in(how, 0, 2));
         ArrayDeque<Msg> coming = peers[i].coming;
         state(!coming.isEmpty() && !(how == 2 && coming.size() == 16));
@@ -344,14 +344,14 @@ final class NaiveChain implements Watch.Readable {
         return true;
     }
 
-    boolean alter(int i, int which, long mask) {
+    public boolean alter(int i, int which, long mask) {
         argument(in(i, 0, 3) && in(which, 0, 10));
         state(!peers[i].coming.isEmpty() && peers[i].coming.peek().key() >= 0);
         peers[i].coming.peek().changed()[which] ^= mask;
         return true;
     }
 
-    int lie(int i, int v, int p, int t) {
+    public int lie(int i, int v, int p, int t) {
         argument(in(i, 0, 3) && isBlock(p) && (t == -1 || isTransaction(t)));
         argument(in(v, 1, 60) && leader(v) == 3);
         Peer liar = peers[3];
@@ -364,14 +364,14 @@ final class NaiveChain implements Watch.Readable {
         return b.number;
     }
 
-    boolean lieVote(int i, int b) {
+    public boolean lieVote(int i, int b) {
         argument(in(i, 0, 3) && isBlock(b));
         state(peers[3].up && peers[3].keys < 32 && b != 0);
         peers[3].sendSigned(2, blocks.get(b), 0, i);
         return true;
     }
 
-    int tick() {
+    public int tick() {
         clock++;
         for (Peer n : peers) {
             if (n.up && --n.timer == 0) {
@@ -384,7 +384,7 @@ final class NaiveChain implements Watch.Readable {
         return clock;
     }
 
-    boolean crash(int i) {
+    public boolean crash(int i) {
         argument(in(i, 0, 3));
         Peer n = peers[i];
         state(n.up);
@@ -396,7 +396,7 @@ final class NaiveChain implements Watch.Readable {
         return true;
     }
 
-    boolean restart(int i) {
+    public boolean restart(int i) {
         argument(in(i, 0, 3));
         Peer n = peers[i];
         state(!n.up);

@@ -188,6 +188,9 @@ public final class ProtocolEdgesTest {
         Check.sentence("If b's view is above VOTED", ProtocolEdgesTest::aboveVoted);
         Check.sentence("and not below its own view", ProtocolEdgesTest::notBelowItsView);
         Check.sentence("b is above LOCKED (LOCKED is below it)", ProtocolEdgesTest::aboveLocked);
+        // Not reached: a b that is LOCKED itself, and "A block is below another one" only. Whoever locks b has got a
+        // proposal of a later view, so it has voted in or entered a view above b's; a crash that takes the view back
+        // to VOTED takes the proposals of b that were on the way, too.
         Check.sentence("or p's view is above LOCKED's (as it is now)", ProtocolEdgesTest::parentAboveLocked);
         // Not reached: a p that is not LOCKED and has its view. Both are certified, each with votes of two of
         // nodes 0 to 2, and each of these votes once in a view.
@@ -303,6 +306,7 @@ public final class ProtocolEdgesTest {
         Check.sentence("it is kept (one for each node and block)", ProtocolEdgesTest::votesForTwoBlocks);
         Check.sentence("if b's view is not below its view - 1", ProtocolEdgesTest::votesInTheViewBehind);
         Check.sentence("if b's view is not below its view - 1", ProtocolEdgesTest::votesTwoViewsLate);
+        Check.sentence("and b is above HIGH in view", ProtocolEdgesTest::votesForABlockBelowHigh);
         // Not reached: "b is above HIGH in view" with b in HIGH's view. Two certified blocks never share a view
         // (see votesForProposals), b is not HIGH anywhere before its third vote has come, and to count three votes
         // again behind a crash would take two more of nodes 0 to 2.
@@ -413,10 +417,63 @@ public final class ProtocolEdgesTest {
         Check.due("no new block", x.about(1), blocks);
     }
 
+    /** Loses the proposals to node 0, which stand behind so many votes that are kept. */
+    private static void loseBehindVotes(Chain x, int votes) {
+        int others = x.node(0, 11) - votes;
+        bringBehindVotesFirst(x, votes);
+        for (int k = 0; k < others; k++) {
+            x.disturb(0, 0);
+        }
+    }
+
+    private static void bringBehindVotesFirst(Chain x, int votes) {
+        for (int k = 0; k < votes; k++) {
+            x.disturb(0, 1);
+        }
+    }
+
+    private static void votesForABlockBelowHigh() {
+        Chain x = new Chain(21);
+        x.begin();
+        for (int i = 0; i < 3; i++) {
+            x.deliver(i);
+        }
+        Play.lose(x, 3);
+        for (int i = 1; i < 4; i++) {
+            x.lie(i, 13, 0, NONE);
+            Play.deliverAll(x, i);
+        }
+        Play.ticks(x, 6);
+        loseBehindVotes(x, 3);
+        Play.deliver(x, 3, 4);
+        Play.deliver(x, 1, 5);
+        Play.deliver(x, 2, 5);
+        Play.deliver(x, 3, 4);
+        Check.due("block 5 of view 14 is certified", x.block(5, 3), 1);
+        bringBehindVotesFirst(x, 3);
+        x.disturb(0, 0);
+        x.deliver(0);
+        Play.deliver(x, 3, 2);
+        bringBehindVotesFirst(x, 3);
+        x.deliver(0);
+        Check.due("node 0 was sent block 5", x.block(5, 4), 15);
+        Play.ticks(x, 6);
+        bringBehindVotesFirst(x, 3);
+        x.deliver(0);
+        Check.due("a timeout has brought HIGH", x.node(0, 4), 5);
+        Check.due("node 0 is in view 1", x.node(0, 1), 1);
+        Play.deliver(x, 0, 3);
+        Check.due("block 1 is certified", x.block(1, 3), 1);
+        Check.due("HIGH stays", x.node(0, 4), 5);
+        Check.due("so does the view", x.node(0, 1), 1);
+        Check.due("no new block", x.about(1), 7);
+    }
+
     private static void timeouts() {
         Check.sentence("when the node has h, and h is certified, HIGH becomes h if its view is above",
                 ProtocolEdgesTest::timeoutsBringHigh);
         // Not reached: "and h is certified". h is the sender's HIGH, which is certified.
+        Check.sentence("HIGH becomes h if its view is above", ProtocolEdgesTest::timeoutsOfAnEarlierViewBringHigh);
         Check.sentence("It is kept (one for each node and view).", ProtocolEdgesTest::timeoutsOfOneNode);
         Check.sentence("It is kept (one for each node and view).", ProtocolEdgesTest::timeoutsWithABlockThatItHasNot);
         Check.sentence("When the third one for v comes", ProtocolEdgesTest::thirdTimeout);
@@ -438,6 +495,20 @@ public final class ProtocolEdgesTest {
         Check.due("node 1's own was block 1", x.node(1, 4), 2);
         Play.deliver(x, 1, 2);
         Check.due("node 3's was block 0", x.node(1, 4), 2);
+    }
+
+    private static void timeoutsOfAnEarlierViewBringHigh() {
+        Chain x = Scenes.withBlockTwoProposed(54);
+        Play.lose(x, 1);
+        x.lie(1, 13, 0, NONE);
+        x.deliver(1);
+        Check.due("node 1 is in view 13", x.node(1, 1), 13);
+        Check.due("its HIGH", x.node(1, 4), 0);
+        Play.ticks(x, 6);
+        Check.due("node 0's timeout is of view 2, with block 1", x.message(1, 0, 3) * 10 + x.message(1, 0, 2), 21);
+        x.deliver(1);
+        Check.due("its HIGH then", x.node(1, 4), 1);
+        Check.due("its view", x.node(1, 1), 13);
     }
 
     private static void timeoutsWithABlockThatItHasNot() {
@@ -549,6 +620,7 @@ public final class ProtocolEdgesTest {
         // a node that has a block has its parent.
         Check.sentence("BLOCK b: if the node has its parent, it has b; else it asks the sender for the parent.",
                 ProtocolEdgesTest::blocksDownTheChain);
+        Check.sentence("BLOCK b: if the node has its parent, it has b", ProtocolEdgesTest::blocksAreNotProposals);
     }
 
     private static void askedAndAnswered() {
@@ -585,6 +657,32 @@ public final class ProtocolEdgesTest {
             Check.due("blocks that it has", x.node(3, 9), b == 2 ? 1 : 2);
         }
         Check.due("block 0 is not asked for", x.node(0, 11), 0);
+    }
+
+    private static void blocksAreNotProposals() {
+        Chain x = new Chain(55);
+        x.begin();
+        for (int b = 1; b <= 2; b++) {
+            x.disturb(3, 0);
+            for (int i = 0; i < 3; i++) {
+                x.deliver(i);
+            }
+            Play.deliver(x, 0, 3);
+        }
+        Play.lose(x, 0);
+        x.deliver(3);
+        x.deliver(0);
+        x.disturb(3, 2);
+        x.deliver(3);
+        x.deliver(0);
+        x.disturb(3, 1);
+        Play.deliver(x, 3, 2);
+        Check.due("it has blocks 1 and 2", x.node(3, 9), 3);
+        Check.due("HIGH", x.node(3, 4), 0);
+        Check.due("the view", x.node(3, 1), 1);
+        Check.due("VOTED", x.node(3, 5), 0);
+        Check.due("no key is used", x.node(3, 7), 0);
+        Check.due("nothing is sent", x.node(0, 11), 0);
     }
 
     private static void commits() {

@@ -228,6 +228,7 @@ public final class ReadEdgesTest {
         Check.sentence("no such block, or what is not 0 .. 4.", ReadEdgesTest::nothingOfABlock);
         Check.sentence("1: its parent, NONE for block 0; 2: its transaction, NONE without one",
                 ReadEdgesTest::blocksWithoutParentOrTransaction);
+        Check.sentence("3: 1 if it is certified, else 0", ReadEdgesTest::certifiedBlocks);
         Check.sentence("4: for which nodes it is there, as bits", ReadEdgesTest::blocksAreThereForNodes);
         Check.sentence("(A view is never -1.)", ReadEdgesTest::viewsOfBlocks);
     }
@@ -264,6 +265,14 @@ public final class ReadEdgesTest {
         Check.due("transaction of block 0", x.block(0, 2), NONE);
         Check.due("transaction of block 1", x.block(1, 2), 0);
         Check.due("transaction of block 2", x.block(2, 2), NONE);
+    }
+
+    private static void certifiedBlocks() {
+        Chain x = busy();
+        int[] due = {1, 1, 1, 1, 0, NONE};
+        for (int b = 0; b < due.length; b++) {
+            Check.due("block " + b, x.block(b, 3), due[b]);
+        }
     }
 
     private static void blocksAreThereForNodes() {

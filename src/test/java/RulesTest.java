@@ -13,7 +13,6 @@ public final class RulesTest {
         votesCountOnlyAtTheNextLeader();
         votesAreForgottenInACrash();
         lateVotesCertifyAndNoMore();
-        votesForABlockBelowHighOnlyCertify();
         votesForTheViewBeforeStillCount();
         threeInARowCommit();
         brokenRowsDoNotCommit();
@@ -201,58 +200,6 @@ public final class RulesTest {
         Check.due("HIGH is as it was", x.node(0, 4), 0);
         Check.due("so is the view", x.node(0, 1), 3);
         Check.due("no new block", x.about(1), 4);
-    }
-
-    /** Loses the proposals to node 0, which stand behind so many votes that are kept. */
-    private static void loseBehindVotes(Chain x, int votes) {
-        int others = x.node(0, 11) - votes;
-        bringBehindVotesFirst(x, votes);
-        for (int k = 0; k < others; k++) {
-            x.disturb(0, 0);
-        }
-    }
-
-    private static void bringBehindVotesFirst(Chain x, int votes) {
-        for (int k = 0; k < votes; k++) {
-            x.disturb(0, 1);
-        }
-    }
-
-    private static void votesForABlockBelowHighOnlyCertify() {
-        Chain x = new Chain(21);
-        x.begin();
-        for (int i = 0; i < 3; i++) {
-            x.deliver(i);
-        }
-        Play.lose(x, 3);
-        for (int i = 1; i < 4; i++) {
-            x.lie(i, 13, 0, NONE);
-            Play.deliverAll(x, i);
-        }
-        Play.ticks(x, 6);
-        loseBehindVotes(x, 3);
-        Play.deliver(x, 3, 4);
-        Play.deliver(x, 1, 5);
-        Play.deliver(x, 2, 5);
-        Play.deliver(x, 3, 4);
-        Check.due("block 5 of view 14 is certified", x.block(5, 3), 1);
-        bringBehindVotesFirst(x, 3);
-        x.disturb(0, 0);
-        x.deliver(0);
-        Play.deliver(x, 3, 2);
-        bringBehindVotesFirst(x, 3);
-        x.deliver(0);
-        Check.due("node 0 was sent block 5", x.block(5, 4), 15);
-        Play.ticks(x, 6);
-        bringBehindVotesFirst(x, 3);
-        x.deliver(0);
-        Check.due("a timeout has brought HIGH", x.node(0, 4), 5);
-        Check.due("node 0 is in view 1", x.node(0, 1), 1);
-        Play.deliver(x, 0, 3);
-        Check.due("block 1 is certified", x.block(1, 3), 1);
-        Check.due("HIGH stays", x.node(0, 4), 5);
-        Check.due("so does the view", x.node(0, 1), 1);
-        Check.due("no new block", x.about(1), 7);
     }
 
     private static void threeInARowCommit() {

@@ -23,6 +23,7 @@ public final class TermEdgesTest {
 
     private static void keys() {
         Check.sentence("node i has KEYS 0 .. 31", TermEdgesTest::eachKeyOnce);
+        Check.sentence("a node uses its next key k (0, 1, .., each once)", TermEdgesTest::keysBehindACrash);
         Check.sentence("(as the bits of k say, left or right)", TermEdgesTest::eachKeyIsGoodAndCanBeSpoiled);
         Check.sentence("each number of a higher row is FOLD(left, right) of two neighbours",
                 TermEdgesTest::rootsByHand);
@@ -41,6 +42,20 @@ public final class TermEdgesTest {
         Check.due("keys used", x.node(3, 7), 32);
         Check.refusesState("a 33rd", x, () -> x.lieVote(0, 1));
         Check.due("the other nodes' keys", x.node(1, 7), 0);
+    }
+
+    private static void keysBehindACrash() {
+        Chain x = new Chain(41);
+        x.begin();
+        Play.lose(x, 0);
+        for (int k = 0; k < 5; k++) {
+            x.lieVote(0, 1);
+            Check.due("the key", x.message(0, k, 4), k);
+            x.crash(3);
+            Check.due("keys used while it is down", x.node(3, 7), k + 1);
+            x.restart(3);
+            Check.due("keys used when it starts", x.node(3, 7), k + 1);
+        }
     }
 
     private static void eachKeyIsGoodAndCanBeSpoiled() {
@@ -532,6 +547,7 @@ public final class TermEdgesTest {
     }
 
     private static void crashesAndStarts() {
+        Check.sentence("Its STORE outlasts crashes", TermEdgesTest::whatACrashLeaves);
         Check.sentence("loses all but the store, also what is on the way to it", TermEdgesTest::whatACrashTakes);
         Check.sentence("loses all but the store", TermEdgesTest::votesACrashTakes);
         Check.sentence("loses all but the store", TermEdgesTest::timeoutsACrashTakes);
@@ -541,6 +557,28 @@ public final class TermEdgesTest {
         // Not reached: "the least of several". Parents are certified, and two certified blocks never share a view:
         // each has votes of two of nodes 0 to 2, and each of these votes once in a view.
         Check.sentence("its view is VOTED, at least 1, timer and span are 6", TermEdgesTest::viewAtAStart);
+    }
+
+    private static void whatACrashLeaves() {
+        Chain x = new Chain(59);
+        x.submit(0, x.transaction(3, 1, 40, 0));
+        x.begin();
+        Play.runUntilBlock(x, 5);
+        Play.deliverAll(x, 2);
+        int[] due = {5, 3, 5, 3, 6};
+        for (int times = 0; times < 3; times++) {
+            for (int what = 5; what <= 9; what++) {
+                Check.due("node(2, " + what + ") behind " + times + " crashes", x.node(2, what), due[what - 5]);
+            }
+            for (int k = 0; k < 3; k++) {
+                Check.due("its log", x.log(2, k), k);
+            }
+            Check.due("money", x.account(2, 3, 0), 60);
+            Check.due("nonce", x.account(2, 3, 1), 1);
+            Check.due("who has block 5", x.block(5, 4) >> 2 & 1, 1);
+            x.crash(2);
+            x.restart(2);
+        }
     }
 
     private static void whatACrashTakes() {
