@@ -9,7 +9,7 @@ import java.util.function.Function;
  */
 final class Chain implements Face {
     static final int CALLS = 512;
-    private static final int FORESEEN = 218;
+    private static final int FORESEEN = 258;
 
     private final int seed;
     private final QuorumChain x;
@@ -46,9 +46,10 @@ final class Chain implements Face {
             int t = k / 4;
             answers.add(Check.outcome(() -> y.submit(i, t)));
         }
-        for (int k = 0; k < 120; k++) {
+        for (int k = 0; k < 80; k++) {
             int i = k % 4;
-            answers.add(Check.outcome(k % 24 == 23 ? y::tick : () -> y.deliver(i)));
+            answers.add(Check.outcome(k % 16 == 15 ? y::tick : () -> y.deliver(i)));
+            answers.add("view " + y.node(i, 1));
         }
         for (int k = 0; k < 48; k++) {
             answers.add(String.valueOf(y.node(k / 12, k % 12)));

@@ -15,7 +15,7 @@ public final class EveryCallTest {
     private static final int NONE = QuorumChain.NONE;
     private static final int LEAST = Integer.MIN_VALUE;
     private static final int MOST = Integer.MAX_VALUE;
-    private static final int REFUSED_AT_ONCE = 200;
+    private static final int REFUSED_AT_ONCE = 150;
     private static final int[] NODES = {LEAST, -1, 0, 1, 2, 3, 4, MOST};
     private static final int[] NUMBERS = {LEAST, -2, -1, 0, 1, 2, 3, 4, 39, 40, 99, 100, MOST};
     private static final int[] WHATS = {LEAST, -1, 0, 1, 2, 3, 4, 5, 6, 7, 8, 9, 10, 11, 12, MOST};
