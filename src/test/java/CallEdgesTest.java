@@ -265,6 +265,7 @@ public final class CallEdgesTest {
         Check.sentence("or not in view 1", CallEdgesTest::beginInAnotherView);
         Check.sentence("What throws changes nothing.", CallEdgesTest::beginThatWasRefusedIsNotCalled);
         Check.sentence("Node 0, the leader of view 1, proposes in it: true.", CallEdgesTest::beginNeedsNodeZeroAlone);
+        Check.sentence("Node 0, the leader of view 1, proposes in it: true.", CallEdgesTest::beginOnAHighFarAbove);
     }
 
     private static void beginOnce() {
@@ -332,6 +333,17 @@ public final class CallEdgesTest {
         }
         Check.holds("begin when all others are in view 13", y.begin());
         Check.due("the view of its block", y.block(4, 0), 1);
+    }
+
+    private static void beginOnAHighFarAbove() {
+        Chain x = Scenes.highFarAboveTheView(8);
+        Check.due("HIGH", x.node(0, 4), 5);
+        Check.due("its view", x.block(5, 0), 15);
+        Check.holds("begin", x.begin());
+        Check.due("the view of its block", x.block(7, 0), 1);
+        Check.due("its parent", x.block(7, 1), 5);
+        Check.due("node 0's view", x.node(0, 1), 1);
+        Check.due("its timer goes on", x.node(0, 2), 6);
     }
 
     private static void promise5() {

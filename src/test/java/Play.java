@@ -30,7 +30,11 @@ final class Play {
 
     /** Loses all that is on the way to node i. */
     static void lose(Chain x, int i) {
-        int count = x.node(i, 11);
+        lose(x, i, x.node(i, 11));
+    }
+
+    /** Loses the first so many messages to node i. */
+    static void lose(Chain x, int i, int count) {
         for (int k = 0; k < count; k++) {
             x.disturb(i, 0);
         }

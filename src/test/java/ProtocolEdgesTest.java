@@ -188,13 +188,13 @@ public final class ProtocolEdgesTest {
         Check.sentence("If b's view is above VOTED", ProtocolEdgesTest::aboveVoted);
         Check.sentence("and not below its own view", ProtocolEdgesTest::notBelowItsView);
         Check.sentence("b is above LOCKED (LOCKED is below it)", ProtocolEdgesTest::aboveLocked);
-        // Not reached: a b that is LOCKED itself, and "A block is below another one" only. Whoever locks b has got a
-        // proposal of a later view, so it has voted in or entered a view above b's; a crash that takes the view back
-        // to VOTED takes the proposals of b that were on the way, too.
+        Check.sentence("A block is below another one when it is its parent, or that one's parent, and so on.",
+                ProtocolEdgesTest::lockedItself);
         Check.sentence("or p's view is above LOCKED's (as it is now)", ProtocolEdgesTest::parentAboveLocked);
         // Not reached: a p that is not LOCKED and has its view. Both are certified, each with votes of two of
         // nodes 0 to 2, and each of these votes once in a view.
         Check.sentence("the span becomes 6, if p's view is 1 less than b's", ProtocolEdgesTest::spanOfTheNextView);
+        Check.sentence("the span becomes 6, if p's view is 1 less than b's", ProtocolEdgesTest::spanOfAParentFarAbove);
     }
 
     private static void aboveVoted() {
@@ -258,6 +258,22 @@ public final class ProtocolEdgesTest {
         Check.due("a block two above it", x.node(1, 5), 14);
     }
 
+    private static void lockedItself() {
+        Chain x = Scenes.highFarAboveTheView(51);
+        x.begin();
+        Chain y = Scenes.highFarAboveTheView(51);
+        x.disturb(0, 1);
+        x.deliver(0);
+        Check.due("begin's block on block 5 locks block 4", x.node(0, 6), 4);
+        Check.due("the view stays", x.node(0, 1), 1);
+        Check.due("a proposal of block 4", x.deliver(0), 1);
+        Check.due("the view behind it", x.node(0, 1), 1);
+        Check.due("VOTED", x.node(0, 5), 1);
+        Check.due("keys used: no vote", x.node(0, 7), 2);
+        y.deliver(0);
+        Check.due("VOTED by the same proposal when LOCKED is block 0", y.node(0, 5), 14);
+    }
+
     private static void parentAboveLocked() {
         Chain x = Scenes.lockedBesideANextView();
         Check.due("LOCKED is block 1", x.node(2, 6), 1);
@@ -295,6 +311,21 @@ public final class ProtocolEdgesTest {
         Check.due("the span when it is one below", x.node(1, 3), 6);
         Check.due("the timer is the span", x.node(1, 2), 6);
         Check.due("the span of one that has not got it", x.node(2, 3), 12);
+    }
+
+    private static void spanOfAParentFarAbove() {
+        Chain x = Scenes.highFarAboveTheViewWithTimeouts(52);
+        Play.deliver(x, 0, 3);
+        Check.due("three timeouts of view 1 bring block 7 of view 2", x.block(7, 0), 2);
+        Check.due("on block 5", x.block(7, 1), 5);
+        Check.due("of view 15", x.block(5, 0), 15);
+        x.disturb(0, 1);
+        x.disturb(0, 1);
+        x.tick();
+        x.deliver(0);
+        Check.due("VOTED", x.node(0, 5), 2);
+        Check.due("the span", x.node(0, 3), 24);
+        Check.due("the timer is the span", x.node(0, 2), 24);
     }
 
     private static void votes() {

@@ -146,6 +146,67 @@ final class Scenes {
         return x;
     }
 
+    /**
+     * Node 0 is in view 1, with HIGH block 5 (view 15) on block 4 (view 14) on block 0: it got both as answers to an
+     * ASK, and heard by a timeout that block 5 is certified. On the way to it is the PROPOSAL of block 4 alone.
+     */
+    static Chain highFarAboveTheView(int seed) {
+        Chain x = new Chain(seed);
+        climbWithoutNodeZero(x, 6, 0);
+        return x;
+    }
+
+    /** The same, but for node 0's span of 24 and for the four timeouts of view 1 that come before the PROPOSAL. */
+    static Chain highFarAboveTheViewWithTimeouts(int seed) {
+        Chain x = timedOut(seed);
+        for (int i = 1; i < 4; i++) {
+            Play.lose(x, i, 4);
+        }
+        climbWithoutNodeZero(x, 12, 4);
+        return x;
+    }
+
+    /** The others time out after so many ticks; so many messages to node 0, which are the first, stay on the way. */
+    private static void climbWithoutNodeZero(Chain x, int ticks, int kept) {
+        for (int i = 1; i < 4; i++) {
+            x.lie(i, 13, 0, QuorumChain.NONE);
+            Play.deliver(x, i, i == 3 ? 4 : 1);
+        }
+        Play.ticks(x, ticks);
+        behind(x, 0, kept);
+        Play.lose(x, 0, 4);
+        for (int i : new int[] {3, 1, 2}) {
+            Play.deliver(x, i, 4);
+        }
+        for (int b = 4; b <= 5; b++) {
+            for (int i = 1; i < 4; i++) {
+                x.deliver(i);
+            }
+            Play.deliver(x, 3, 3);
+        }
+        behind(x, 0, kept + 1);
+        Play.lose(x, 0, 1);
+        askForBothBlocks(x, kept);
+        Play.ticks(x, 6);
+        behind(x, 0, kept + 1);
+        Play.deliver(x, 0, 3);
+    }
+
+    /** Block 6 is first on the way to nodes 0 and 3; node 0 asks node 3 for block 5, and for block 4. */
+    private static void askForBothBlocks(Chain x, int kept) {
+        Play.lose(x, 3, 1);
+        x.deliver(0);
+        x.deliver(3);
+        behind(x, 0, kept + 1);
+        x.disturb(0, 2);
+        x.deliver(0);
+        x.deliver(3);
+        behind(x, 0, kept + 2);
+        x.deliver(0);
+        behind(x, 0, kept + 1);
+        x.deliver(0);
+    }
+
     /** The first messages to node i go behind all others, one after the other. */
     private static void behind(Chain x, int i, int count) {
         for (int k = 0; k < count; k++) {
